@@ -18,8 +18,8 @@ public final class BackhaulReturns {
     private static final int EVENT_WINDOW = 90;
     private static final int BLOCKING_SCORE = 100;
 
-    // Every return or exchange of the last 90 days scores 5, and a score of 100 lets no more
-    // through: more than 20 of a customer never count at once.
+    // Every return or exchange of the last 90 days scores 5 at least, and a score of 100 lets no
+    // more through: of one customer, more than 20 never count at once.
     private static final int MOST_EVENTS = 20;
 
     private final Product[] catalog;
@@ -559,7 +559,7 @@ public final class BackhaulReturns {
         private void forgetBefore(int day) {
             int still = 0;
             for (int i = 0; i < count && i < MOST_EVENTS; i++) {
-                if (days[i] >= day) {
+                if (days[i] >= day && still < MOST_EVENTS) {
                     days[still] = days[i];
                     units[still] = units[i];
                     areChained[still] = areChained[i];

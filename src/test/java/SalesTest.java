@@ -225,6 +225,11 @@ public final class SalesTest {
         x.giveBack(0, 1, 1, BackhaulReturns.NEW);
         x.giveBack(0, 3, 1, BackhaulReturns.NEW);
         dueShares("no kept units at all", x, 0, 0, 0, 0);
+        BackhaulReturns cent = Scene.lines(5, 1, 7);
+        cent.pay(0);
+        cent.giveBack(0, 0, 1, BackhaulReturns.NEW);
+        cent.giveBack(0, 2, 1, BackhaulReturns.NEW);
+        dueShares("one cent", cent, 0, 1, 0);
         BackhaulReturns exchanged = exchanged();
         Check.is("lineValue of a sale by an exchange", exchanged.lineValue(1, 0), 1000);
     }

@@ -8,6 +8,7 @@ public final class ScoresTest {
         promise23Chains();
         promise23OfEachCustomer();
         promise23SlidesOn();
+        promise23OldEventsLeaveAlone();
         promise23BlocksFrom100();
         promise23Refusals();
         Check.finish("ScoresTest");
@@ -96,6 +97,35 @@ public final class ScoresTest {
             Check.is("score, turn " + turn, x.score(8), 10 * units + 5 * events);
             x.pass(10);
         }
+    }
+
+    /** A new event, when the first ones have left the windows or just not, leaves the others as they are. */
+    private static void promise23OldEventsLeaveAlone() {
+        BackhaulReturns x = Scene.paid(1);
+        x.giveBack(0, 0, 1, NEW);
+        x.pass(70);
+        x.open(3);
+        x.add(1, 0, 4);
+        x.pay(1);
+        x.exchange(1, 0, 2, NEW, 0);
+        x.exchange(2, 0, 2, NEW, 0);
+        Check.is("score on day 70", x.score(3), 5 + 25 + 45);
+        x.pass(25);
+        Check.is("score on day 95", x.score(3), 25 + 45);
+        x.giveBack(1, 0, 1, NEW);
+        Check.is("score on day 95, one more back", x.score(3), 25 + 45 + 15);
+        x.pass(5);
+        Check.is("score on day 100", x.score(3), 5 + 25 + 15);
+        BackhaulReturns edge = Scene.paid(1);
+        edge.giveBack(0, 0, 1, NEW);
+        edge.pass(89);
+        edge.open(3);
+        edge.add(1, 0, 1);
+        edge.pay(1);
+        edge.giveBack(1, 0, 1, NEW);
+        Check.is("score on day 89, one more back", edge.score(3), 5 + 15);
+        edge.pass(1);
+        Check.is("score on day 90", edge.score(3), 15);
     }
 
     /** Single units return: 7 on day 0, 5 on day 30, the rest on day 60. Each starts below 100. */
