@@ -1,4 +1,7 @@
-/** All that can be asked of an object, as one text. Looking passes a day: look once, and last. */
+/**
+ * All that can be asked of an object, as one text, and what comes of it: open sales are paid and days
+ * pass, so that lines, payments and returns show which no call tells at once. Look once, and last.
+ */
 final class Picture {
     private final BackhaulReturns x;
     private final StringBuilder text = new StringBuilder();
@@ -12,7 +15,12 @@ final class Picture {
         picture.takeProducts();
         picture.takeSales();
         picture.takeScores();
-        picture.takeDay();
+        picture.payOpenSales();
+        picture.passDays(1);
+        picture.passDays(28);
+        picture.takeScores();
+        picture.passDays(1);
+        picture.takeScores();
         return picture.text.toString();
     }
 
@@ -55,9 +63,20 @@ final class Picture {
         }
     }
 
-    private void takeDay() {
+    private void payOpenSales() {
+        int sales = x.sales();
+        for (int sale = 0; sale < sales; sale++) {
+            try {
+                text.append(" pays ").append(x.pay(sale));
+            } catch (IllegalStateException e) {
+                text.append(" pays not");
+            }
+        }
+    }
+
+    private void passDays(int days) {
         try {
-            text.append(" next day ").append(x.pass(1));
+            text.append(" then day ").append(x.pass(days));
         } catch (IllegalStateException e) {
             text.append(" last day");
         }
